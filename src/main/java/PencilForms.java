@@ -663,8 +663,10 @@ public final class PencilForms {
             faultPlace = 0;
             draft.makeEmpty();
             lines = 0;
-            for (int turn = 0; turn <= many && readToken() && kind != END && readLine(); turn++) {
-                lines++;
+            boolean more = true;
+            for (int turn = 0; turn <= many && more; turn++) {
+                more = readToken() && kind != END && readLine();
+                lines += more ? 1 : 0;
             }
             if (faultKind == 0 && largestX >= draft.prime) {
                 stopAt(X_TOO_LARGE, many);

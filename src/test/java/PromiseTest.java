@@ -171,6 +171,9 @@ public final class PromiseTest {
         textOf("colx 1;", -10, 2);
         textOf("co 1;", -10, 2);
         textOf("prim 2;", -10, 2);
+        for (String other : new String[] {"zol 1;", "zow 1;", "znf 1;", "zt 1 1;", "zrime 2;", "az 1 1;", "coz 1;", "inz 1;", "rol 1;"}) {
+            textOf(other, -10, 2);
+        }
         textOf("at 1;", -14, 2);
         textOf("col;", -13, 2);
         textOf("inf inf;", -14, 2);
@@ -212,17 +215,19 @@ public final class PromiseTest {
 
     private static void textTellsAll() {
         PencilForms p = told("prime 5;at 3 2;");
+        p.keep(0);
         p.keep(1);
         Check.type(p, "col 9;");
         due("a text with a fault", p.text(), -14);
         due("its fault", p.fault(), 3);
         tables("behind a fault", p, "31/03", "10/01");
         due("PRIME behind a fault", p.rule(2), 5);
-        due("IMAGES behind a fault", p.count(0), 1);
+        due("IMAGES behind a fault", p.count(0), 2);
         Check.type(p, "row 1;");
         due("a text that is taken", p.text(), 1);
         due("no fault", p.fault(), 0);
         due("IMAGES are gone", p.count(0), 0);
+        due("back(0)", p.back(0), STATE);
         due("back(1)", p.back(1), STATE);
         due("PRIME when no line tells it", p.rule(2), 7);
         tables("what was is replaced", p, "1/0", "0/1");
@@ -234,6 +239,9 @@ public final class PromiseTest {
         tables("inf 3", told("inf 3;"), "100/010/001", "010/001/000");
         tables("at 4 3", told("at 4 3;"), "410/041/004", "100/010/001");
         tables("in order", told("prime 5;col 1;row 1;at 2 1;"), "1000/0010/0000/0002", "0100/0000/0010/0001");
+        PencilForms twice = told("prime 3;at 2 1;");
+        Check.type(twice, "prime 2;col 1;");
+        due("prime again in another text, no X", twice.text(), 2);
         tables("no columns", told("row 0;row 0;"), "/", "/");
         tables("edges", told("col 0;row 0;at 3 2;inf 1;"), "0000/0310/0030/0001", "0000/0100/0010/0000");
         PencilForms old = told("inf 4;");
@@ -378,6 +386,19 @@ public final class PromiseTest {
         due("go(highest, 0)", p.go(HIGHEST, 0), BAD);
         due("go(1, 5)", p.go(1, 5), BAD);
         due("go(1, -1)", p.go(1, -1), BAD);
+        p = filled(5, "123/004", "340/102");
+        int[] allOf = {3, 4, 5, 6, 7};
+        for (int k = 0; k < 5; k++) {
+            due("ranks are full: steps(" + k + ", 0)", p.steps(k, 0), allOf[k]);
+            due("ranks are full: steps(" + k + ", 1)", p.steps(k, 1), 3);
+            due("ranks are full: go(424, " + k + ")", p.go(424, k), 1);
+        }
+        p = filled(5, "12/24", "31/31");
+        due("A v0 is no multiple of (1, 1): go(1, 1)", p.go(1, 1), 0);
+        due("A v0 is 0: go(13, 1)", p.go(13, 1), 1);
+        due("A v0 is 0: go(13, 4)", p.go(13, 4), 1);
+        due("A v0 is (4, 3): go(12, 1)", p.go(12, 1), 0);
+        due("steps(1, 1)", p.steps(1, 1), 1);
         p = told("col 0;col 0;");
         due("no ROWS: go(66, 4)", p.go(66, 4), 1);
         due("no ROWS: go(166, 4)", p.go(166, 4), BAD);
@@ -417,6 +438,11 @@ public final class PromiseTest {
         p.open(1);
         p.open(1);
         tables("columns that were cut are 0", p, "00/00", "00/00");
+        due("cut(0, 2)", p.cut(0, 2), 22);
+        due("no ROWS", p.rule(0), 0);
+        due("COLUMNS stay", p.rule(1), 2);
+        due("cut(0, 0)", p.cut(0, 0), 2);
+        due("cut of nothing", p.cut(0, 0), 0);
     }
 
     private static void mixTimesSwap() {
@@ -425,6 +451,11 @@ public final class PromiseTest {
         tables("mix rows", p, "120/004", "141/102");
         due("mix columns", p.mix(1, 2, 0, 4), 1);
         tables("mix columns", p, "124/004", "140/101");
+        due("mix once", p.mix(0, 1, 0, 1), 1);
+        tables("mix once", p, "124/123", "140/241");
+        due("mix once less", p.mix(0, 1, 0, 4), 1);
+        tables("mix once less", p, "124/004", "140/101");
+        due("times 1", p.times(1, 0, 1), 1);
         due("mix i is j", p.mix(0, 1, 1, 1), BAD);
         for (int[] no : new int[][] {{2, 0, 1, 1}, {-1, 0, 1, 1}, {0, 0, 2, 1}, {0, 2, 0, 1}, {0, -1, 0, 1}, {0, 0, -1, 1}, {1, 3, 0, 1}, {1, 0, 3, 1},
             {0, 0, 1, 0}, {0, 0, 1, 5}, {0, 0, 1, -1}}) {
@@ -532,6 +563,14 @@ public final class PromiseTest {
         p.back(0);
         p.turn(1);
         due("flipped: the same lengths", p.alike(0), 1);
+        p = filled(3, "02/10", "10/01");
+        p.keep(0);
+        p.cut(0, 0);
+        due("nothing is not alike REST alone", p.alike(0), 0);
+        p.back(0);
+        p.set(0, 0, 0, 2);
+        p.set(0, 0, 1, 1);
+        due("x x less 2 x less 1 has no x either: REST is not told apart", p.alike(0), 1);
         sameSizeOtherIndices("col 0;col 2;", 2, 4, new int[][] {{0, 0, 0}, {1, 0, 1}, {0, 1, 2}, {1, 1, 3}});
         sameSizeOtherIndices("row 0;row 2;", 4, 2, new int[][] {{0, 0, 0}, {1, 1, 0}, {0, 2, 1}, {1, 3, 1}});
     }
