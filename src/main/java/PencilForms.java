@@ -28,7 +28,6 @@ public final class PencilForms {
     private static final int FOUND_BASE = -10;
     private static final int REFUSED_BASE = -20;
 
-    private final byte[] tape;
     private final TextReader reader;
     private final Pair pair;
     private final Pair[] images;
@@ -37,13 +36,11 @@ public final class PencilForms {
     private final Underneath underneath;
     private final int[] formHere;
     private final int[] formThere;
-    private int onTape;
     private int textFault;
     private int readFault;
 
     public PencilForms() {
-        tape = new byte[TAPE_PLACES];
-        reader = new TextReader(tape);
+        reader = new TextReader();
         pair = new Pair();
         images = new Pair[IMAGES];
         for (int k = 0; k < IMAGES; k++) {
@@ -65,26 +62,21 @@ public final class PencilForms {
         if (c < 0 || c > MOST_BYTE) {
             return BAD;
         }
-        if (onTape >= TAPE_PLACES) {
-            return FULL;
-        }
-        tape[onTape] = (byte) c;
-        onTape++;
-        return onTape;
+        return reader.addByte(c) ? reader.many : FULL;
     }
 
     public int end(int n) {
-        if (n < 0 || n > onTape) {
+        if (n < 0 || n > reader.many) {
             return BAD;
         }
-        int had = onTape;
-        onTape = n;
+        int had = reader.many;
+        reader.many = n;
         return had;
     }
 
     public int text() {
-        reader.readText(onTape);
-        onTape = 0;
+        reader.readText();
+        reader.many = 0;
         textFault = reader.faultKind;
         if (textFault != 0) {
             return FOUND_BASE - reader.faultPlace;
@@ -399,7 +391,7 @@ public final class PencilForms {
             case 1:
                 return pair.placesNotZero();
             case 2:
-                return onTape;
+                return reader.many;
             case 3:
                 return sheets[0].isNothing() ? NONE : sheets[0].size;
             case 4:
@@ -612,7 +604,7 @@ public final class PencilForms {
         }
     }
 
-    /** Reads a text into a draft, up to its first FAULT; the pair itself is touched only by a text that is taken. */
+    /** THE TAPE; its text is read into a draft, so that a text with a FAULT leaves the pair as it is. */
     private static final class TextReader {
         private static final int END = 0;
         private static final int NAME = 1;
@@ -649,13 +641,22 @@ public final class PencilForms {
         private int faultKind;
         private int faultPlace;
 
-        TextReader(byte[] bytes) {
-            this.bytes = bytes;
+        TextReader() {
+            bytes = new byte[TAPE_PLACES];
             draft = new Pair();
         }
 
-        void readText(int length) {
-            many = Math.min(length, bytes.length);
+        /** False if THE TAPE is full. */
+        boolean addByte(int c) {
+            if (many >= TAPE_PLACES) {
+                return false;
+            }
+            bytes[many] = (byte) c;
+            many++;
+            return true;
+        }
+
+        void readText() {
             place = 0;
             largestX = -1;
             primeTold = false;
@@ -838,33 +839,33 @@ public final class PencilForms {
         private static final int MOST_WIDE = MOST_LINES * (MOST_STEPS + 1);
 
         private final int[] numbers;
-        private Pair pair;
+        private int prime;
         private int high;
         private int wide;
 
-        Equations(Pair pair) {
+        Equations() {
             numbers = new int[MOST_HIGH * MOST_WIDE];
-            this.pair = pair;
+            prime = FIRST_PRIME;
         }
 
-        void begin(Pair of, int blocksHigh, int blocksWide) {
-            pair = of;
-            high = Math.min(blocksHigh * of.rows, MOST_HIGH);
-            wide = Math.min(blocksWide * of.columns, MOST_WIDE);
+        void begin(Pair pair, int blocksHigh, int blocksWide) {
+            prime = pair.prime;
+            high = Math.min(blocksHigh * pair.rows, MOST_HIGH);
+            wide = Math.min(blocksWide * pair.columns, MOST_WIDE);
             Arrays.fill(numbers, 0);
         }
 
-        void putBlock(int down, int across, int timesA, int timesB) {
+        void putBlock(Pair pair, int down, int across, int timesA, int timesB) {
             for (int i = 0; i < pair.rows; i++) {
                 for (int j = 0; j < pair.columns; j++) {
                     int sum = timesA * pair.valueAt(0, i, j) + timesB * pair.valueAt(1, i, j);
-                    putNumber(down * pair.rows + i, across * pair.columns + j, reduce(sum, pair.prime));
+                    putNumber(down * pair.rows + i, across * pair.columns + j, reduce(sum, prime));
                 }
             }
         }
 
         /** A times a column as one more, last column of all. */
-        void addImageUnderA(int[] column) {
+        void addImageUnderA(Pair pair, int[] column) {
             if (wide >= MOST_WIDE) {
                 return;
             }
@@ -874,7 +875,7 @@ public final class PencilForms {
                 for (int j = 0; j < pair.columns && j < column.length; j++) {
                     sum += pair.valueAt(0, i, j) * column[j];
                 }
-                putNumber(i, wide - 1, reduce(sum, pair.prime));
+                putNumber(i, wide - 1, reduce(sum, prime));
             }
         }
 
@@ -917,7 +918,7 @@ public final class PencilForms {
                 if (own != 0) {
                     for (int c = from; c < wide; c++) {
                         int sum = lead * numbers[r * MOST_WIDE + c] - own * numbers[done * MOST_WIDE + c];
-                        numbers[r * MOST_WIDE + c] = reduce(sum, pair.prime);
+                        numbers[r * MOST_WIDE + c] = reduce(sum, prime);
                     }
                 }
             }
@@ -943,7 +944,7 @@ public final class PencilForms {
 
         Underneath() {
             flipped = new Pair();
-            equations = new Equations(flipped);
+            equations = new Equations();
             colCounts = new int[DEGREES];
             rowCounts = new int[DEGREES];
             column = new int[MOST_LINES];
@@ -957,8 +958,8 @@ public final class PencilForms {
         int nullsOf(Pair pair, int d) {
             equations.begin(pair, d + 2, d + 1);
             for (int i = 0; i <= d; i++) {
-                equations.putBlock(i, i, 1, 0);
-                equations.putBlock(i + 1, i, 0, -1);
+                equations.putBlock(pair, i, i, 1, 0);
+                equations.putBlock(pair, i + 1, i, 0, -1);
             }
             return equations.wide - equations.useUpForRank();
         }
@@ -971,8 +972,8 @@ public final class PencilForms {
         int stepsOf(Pair pair, int k) {
             equations.begin(pair, k, k + 1);
             for (int i = 0; i < k; i++) {
-                equations.putBlock(i, i, -1, 0);
-                equations.putBlock(i, i + 1, 0, 1);
+                equations.putBlock(pair, i, i, -1, 0);
+                equations.putBlock(pair, i, i + 1, 0, 1);
             }
             return equations.wide - equations.useUpForRank();
         }
@@ -1004,7 +1005,7 @@ public final class PencilForms {
             int without = equations.useUpForRank();
             putChains(pair, pair.prime, k);
             if (k > 0) {
-                equations.addImageUnderA(column);
+                equations.addImageUnderA(pair, column);
             }
             return equations.useUpForRank() == without;
         }
@@ -1088,9 +1089,9 @@ public final class PencilForms {
             boolean beyond = x == pair.prime;
             equations.begin(pair, k, k);
             for (int i = 0; i < k; i++) {
-                equations.putBlock(i, i, beyond ? 0 : 1, beyond ? 1 : -x);
+                equations.putBlock(pair, i, i, beyond ? 0 : 1, beyond ? 1 : -x);
                 if (i > 0) {
-                    equations.putBlock(i, i - 1, beyond ? -1 : 0, beyond ? 0 : -1);
+                    equations.putBlock(pair, i, i - 1, beyond ? -1 : 0, beyond ? 0 : -1);
                 }
             }
         }
