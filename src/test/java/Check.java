@@ -24,6 +24,12 @@ final class Check {
         due(what, holds ? 1 : 0, 1);
     }
 
+    /** Both tables, each told by its rows with strokes between. */
+    void tables(String what, PencilForms p, String a, String b) {
+        that(what + ": A is " + show(p, 0) + ", due is " + a, show(p, 0).equals(a));
+        that(what + ": B is " + show(p, 1) + ", due is " + b, show(p, 1).equals(b));
+    }
+
     boolean allRight() {
         return wrong == 0;
     }
@@ -49,6 +55,44 @@ final class Check {
         int lines = p.text();
         if (lines < 0) {
             throw new IllegalStateException("text not taken: " + text + " (" + lines + ")");
+        }
+        return p;
+    }
+
+    /** A table's rows, one behind another with strokes between. */
+    static String show(PencilForms p, int t) {
+        StringBuilder s = new StringBuilder();
+        for (int i = 0; i < p.rule(0); i++) {
+            s.append(i > 0 ? "/" : "");
+            for (int j = 0; j < p.rule(1); j++) {
+                s.append(p.cell(t, i, j));
+            }
+        }
+        return s.toString();
+    }
+
+    /** An object with PRIME and tables of so many rows and columns, all 0. */
+    static PencilForms sized(int prime, int rows, int columns) {
+        PencilForms p = told("prime " + prime + ";");
+        for (int i = 0; i < rows; i++) {
+            p.open(0);
+        }
+        for (int j = 0; j < columns; j++) {
+            p.open(1);
+        }
+        return p;
+    }
+
+    /** An object with PRIME and both tables as told row by row. */
+    static PencilForms filled(int prime, String a, String b) {
+        String[][] lines = {a.split("/"), b.split("/")};
+        PencilForms p = sized(prime, lines[0].length, lines[0][0].length());
+        for (int t = 0; t < 2; t++) {
+            for (int i = 0; i < lines[t].length; i++) {
+                for (int j = 0; j < lines[t][i].length(); j++) {
+                    p.set(t, i, j, lines[t][i].charAt(j) - '0');
+                }
+            }
         }
         return p;
     }

@@ -17,41 +17,12 @@ public final class PromiseTest {
         return Check.told(text);
     }
 
-    /** A table's rows, one behind another with strokes between. */
-    private static String show(PencilForms p, int t) {
-        StringBuilder s = new StringBuilder();
-        for (int i = 0; i < p.rule(0); i++) {
-            s.append(i > 0 ? "/" : "");
-            for (int j = 0; j < p.rule(1); j++) {
-                s.append(p.cell(t, i, j));
-            }
-        }
-        return s.toString();
+    private static PencilForms filled(int prime, String a, String b) {
+        return Check.filled(prime, a, b);
     }
 
     private static void tables(String what, PencilForms p, String a, String b) {
-        CHECK.that(what + ": A is " + show(p, 0) + ", due is " + a, show(p, 0).equals(a));
-        CHECK.that(what + ": B is " + show(p, 1) + ", due is " + b, show(p, 1).equals(b));
-    }
-
-    /** An object with PRIME and both tables as told row by row. */
-    private static PencilForms filled(int prime, String a, String b) {
-        PencilForms p = told("prime " + prime + ";");
-        String[][] lines = {a.split("/"), b.split("/")};
-        for (int i = 0; i < lines[0].length; i++) {
-            p.open(0);
-        }
-        for (int j = 0; j < lines[0][0].length(); j++) {
-            p.open(1);
-        }
-        for (int t = 0; t < 2; t++) {
-            for (int i = 0; i < lines[t].length; i++) {
-                for (int j = 0; j < lines[t][i].length(); j++) {
-                    p.set(t, i, j, lines[t][i].charAt(j) - '0');
-                }
-            }
-        }
-        return p;
+        CHECK.tables(what, p, a, b);
     }
 
     public static void main(String[] args) {
@@ -495,7 +466,7 @@ public final class PromiseTest {
             done += q.mix(got & 1, (got >> 1) % 2, (got >> 3) % 2, (got >> 5) % 3) == 1 ? 1 : 0;
         }
         due("scramble(7, 100)", p.scramble(7, 100), done);
-        tables("mixed as by mix()", p, show(q, 0), show(q, 1));
+        tables("mixed as by mix()", p, Check.show(q, 0), Check.show(q, 1));
         p = told("row 0;row 0;row 0;");
         due("no COLUMNS: rows alone are mixed", p.scramble(-5, 100) > 0 ? 1 : 0, 1);
         p = told("at 1 1;");
