@@ -627,6 +627,7 @@ public final class BoundaryTextTest {
         rules(Check.filled(2, "0001/1001/0100/0010", "1000/0100/0010/0001"), "REST is all", 4, 4, 2, 0, 0, 0, 0, 4);
         rules(Check.filled(2, "0110/1101/0001/0011", "1000/0100/0010/0001"), "REST is all, twice", 4, 4, 2, 0, 0, 0, 0, 4);
         due("REST, asked for alone", Check.told("col 1;row 0;inf 1;").rule(7), 0);
+        due("REST beside a ROW index, asked for alone", Check.told("row 2;inf 1;").rule(7), 0);
         PencilForms p = Check.sized(7, 3, 4);
         due("REST of 0", p.rule(7), 0);
         p.turn(1);
