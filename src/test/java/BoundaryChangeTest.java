@@ -45,6 +45,7 @@ public final class BoundaryChangeTest {
         textAndImages();
         alikeTellsEachPartApart();
         alikeDoesNotTellApart();
+        alikeWithASmallerPrime();
         refusedCallsChangeNothing();
         refusedWhenFullOrEmpty();
         CHECK.finish();
@@ -644,6 +645,20 @@ public final class BoundaryChangeTest {
         p.keep(1);
         p.back(0);
         due("on each side", p.alike(1), 0);
+    }
+
+    /** With a smaller PRIME there are fewer x: nothing of those that were asked for before counts. */
+    private static void alikeWithASmallerPrime() {
+        PencilForms p = Check.told("at 5 2;inf 2;");
+        p.keep(0);
+        p.cut(0, 0);
+        due("not alike modulo 7", p.alike(0), 0);
+        Check.type(p, "prime 2;inf 1;");
+        due("another text", p.text(), 2);
+        p.keep(0);
+        due("alike modulo 2", p.alike(0), 1);
+        p.set(1, 0, 0, 1);
+        due("not alike modulo 2", p.alike(0), 0);
     }
 
     // ---- what is refused
