@@ -211,11 +211,7 @@ public final class BoundaryTextTest {
     // ---- promises 4 and 5, and what a text is
 
     private static void textOf(String text, int answer, int fault) {
-        PencilForms p = new PencilForms();
-        Check.type(p, text);
-        due("text \"" + text + "\"", p.text(), answer);
-        due("fault of \"" + text + "\"", p.fault(), fault);
-        due("THE TAPE behind \"" + text + "\"", p.count(2), 0);
+        CHECK.text(text, answer, fault);
     }
 
     private static void anEmptyTextTellsAll() {

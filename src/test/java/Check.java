@@ -30,6 +30,15 @@ final class Check {
         that(what + ": B is " + show(p, 1) + ", due is " + b, show(p, 1).equals(b));
     }
 
+    /** What a new object answers to a text, and its fault; THE TAPE is empty behind it. */
+    void text(String text, int answer, int fault) {
+        PencilForms p = new PencilForms();
+        type(p, text);
+        due("text \"" + text + "\"", p.text(), answer);
+        due("fault of \"" + text + "\"", p.fault(), fault);
+        due("THE TAPE behind \"" + text + "\"", p.count(2), 0);
+    }
+
     boolean allRight() {
         return wrong == 0;
     }

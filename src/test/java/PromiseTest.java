@@ -110,11 +110,7 @@ public final class PromiseTest {
     }
 
     private static void textOf(String text, int answer, int fault) {
-        PencilForms p = new PencilForms();
-        Check.type(p, text);
-        due("text \"" + text + "\"", p.text(), answer);
-        due("fault of \"" + text + "\"", p.fault(), fault);
-        due("tape behind \"" + text + "\"", p.count(2), 0);
+        CHECK.text(text, answer, fault);
     }
 
     private static void textFaults() {
