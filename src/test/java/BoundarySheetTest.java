@@ -269,6 +269,12 @@ public final class BoundarySheetTest {
                 due("the machine finds nothing", p.torn(), 0);
             }
         }
+        // the document leaves room here: what is read not once is taken as of no lane either (NOTES.md)
+        for (int lane = 1; lane < 3; lane++) {
+            PencilForms p = Refusals.rich();
+            due("read(0, " + lane + ", 0, 0), another lane", p.read(0, lane, 0, 0), 0);
+            due("no CAST", p.torn(), 0);
+        }
     }
 
     private static void readFromEveryCell() {
